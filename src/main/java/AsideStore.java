@@ -155,22 +155,22 @@ public final class AsideStore {
     }
 
     public int sync() {
-        lookAtRefusal(now.refusalOf(SYNC, 0, 0));
+        getReady();
         return now.perform(SYNC, 0, 0, 0, 0);
     }
 
     public int flush() {
-        lookAtRefusal(now.refusalOf(FLUSH, 0, 0));
+        getReady();
         return now.perform(FLUSH, 0, 0, 0, 0);
     }
 
     public int merge() {
-        lookAtRefusal(now.refusalOf(MERGE, 0, 0));
+        getReady();
         return now.perform(MERGE, 0, 0, 0, 0);
     }
 
     public int crash() {
-        lookAtRefusal(now.refusalOf(CRASH, 0, 0));
+        getReady();
         return now.perform(CRASH, 0, 0, 0, 0);
     }
 
@@ -202,12 +202,17 @@ public final class AsideStore {
         return memory.size;
     }
 
-    /** Behind it the ACT is done: all is remembered as it is ahead of that. */
     private void lookAtRefusal(int refusal) {
-        refusedBy = refusal;
         if (refusal != 0) {
+            refusedBy = refusal;
             throw new IllegalStateException("the ACT is refused");
         }
+        getReady();
+    }
+
+    /** Nothing stands in the way of an ACT by a call, so all is remembered as it is ahead of it. */
+    private void getReady() {
+        refusedBy = 0;
         memory.remember(now);
     }
 

@@ -40,9 +40,13 @@ final class Check {
         if (!got.equals(String.valueOf(due))) {
             wrong++;
             if (wrong <= 40) {
-                System.out.println(what + " answered " + got + ", due is " + due);
+                System.out.println(what + " answered " + cut(got) + ", due is " + cut(String.valueOf(due)));
             }
         }
+    }
+
+    private static String cut(String text) {
+        return text.length() > 200 ? text.substring(0, 200) + ".." : text;
     }
 
     static void feed(AsideStore store, String text) {

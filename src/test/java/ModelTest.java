@@ -3,21 +3,26 @@ import java.util.Random;
 /** Long runs of calls, the same on AsideStore and on the Model; every question is asked of both behind each ACT. */
 public final class ModelTest {
     private static final int RUNS = 120;
-    private static final int CALLS = 160;
+    private static final int CALLS = 200;
 
     private final Random random;
     private final int run;
     private final AsideStore store = new AsideStore();
     private final Model model = new Model();
     private final int span;
+    private final int shortest;
     private final int longest;
+    /** Every third run fills the SEGMENTS up, so that room is what is short. */
+    private final boolean tight;
     private String latest = "";
 
     private ModelTest(int run) {
         this.run = run;
         random = new Random(run * 7919L + 1);
-        span = 1 << 1 + random.nextInt(6);
-        longest = 5 + random.nextInt(36);
+        tight = run % 3 == 0;
+        span = tight ? 64 : 1 << 1 + random.nextInt(6);
+        longest = tight ? 40 : 5 + random.nextInt(36);
+        shortest = tight ? random.nextInt(30) : 0;
     }
 
     public static void main(String[] args) {
@@ -57,7 +62,7 @@ public final class ModelTest {
     }
 
     private void act() {
-        switch (random.nextInt(26)) {
+        switch (random.nextInt(tight ? 50 : 26)) {
             case 0:
                 both("sync", store::sync, () -> model.act("sync"));
                 break;
@@ -68,7 +73,9 @@ public final class ModelTest {
                 both("merge", store::merge, () -> model.act("merge"));
                 break;
             case 3:
-                both("crash", store::crash, () -> model.act("crash"));
+                if (!tight || random.nextInt(4) == 0) {
+                    both("crash", store::crash, () -> model.act("crash"));
+                }
                 break;
             case 4:
             case 5:
@@ -104,7 +111,7 @@ public final class ModelTest {
                 break;
             default:
                 int k = key();
-                int length = random.nextInt(40) == 0 ? random.nextInt(44) - 1 : 1 + random.nextInt(longest);
+                int length = random.nextInt(40) == 0 ? random.nextInt(44) - 1 : shortest + 1 + random.nextInt(longest - shortest);
                 int seed = random.nextInt(40) == 0 ? random.nextInt(260) - 2 : random.nextInt(4) * 85;
                 both("put " + k + " " + length + " " + seed, () -> store.put(k, length, seed),
                     () -> model.put(k, length, seed));
@@ -175,6 +182,9 @@ public final class ModelTest {
         int n = random.nextInt(10) == 0 ? random.nextInt(17) : random.nextInt(5);
         for (int i = 0; i < n; i++) {
             text.append(i == 0 ? "" : ";").append(blanks()).append(oneAct()).append(blanks());
+        }
+        if (random.nextInt(8) == 0) {
+            text.append("sync;".repeat(12 + random.nextInt(3))).append(oneAct());
         }
         if (random.nextInt(3) == 0 && text.length() > 0) {
             int at = random.nextInt(text.length());
