@@ -884,11 +884,15 @@ public final class AsideStore {
             return NONE;
         }
 
+        /** Asked for each RECORD whenever bytes are counted, so it goes down the levels by itself. */
         long currentOf(int key) {
-            for (int level = 0; level <= runs; level++) {
-                long card = at(level, key);
-                if (card != Card.NO_CARD) {
-                    return card;
+            if (key < 0 || key >= KEYS) {
+                return Card.NO_CARD;
+            }
+            int behind = Math.min((runs + 1) * KEYS, cards.length);
+            for (int at = key; at < behind; at += KEYS) {
+                if (cards[at] != Card.NO_CARD) {
+                    return cards[at];
                 }
             }
             return Card.NO_CARD;
