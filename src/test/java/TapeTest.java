@@ -109,7 +109,7 @@ public final class TapeTest {
         right("pick 0", 1);
         right("step 20", 1);
         due("collected", 0, () -> x.segment(0, 0));
-        wrong("pick 1 1", 7);
+        wrong("pick 1 0", 7);
         due("nothing is on", -1, () -> x.count(14));
         right("drop 1;sync;flush;merge;crash", 5);
         due("dropped", -1, () -> x.key(1, 0));
