@@ -243,7 +243,12 @@ public final class BoundsOfAnswersTest {
         ofRun(0, 2, 0, 63, 1, 1);
         x.put(63, 1, 1);
         ofRun(0, 2, 0, 63, 1, 0);
-        due("RUN 2", Check.INDEX, () -> x.run(2, 0));
+        x.drop(0);
+        x.drop(63);
+        x.flush();
+        ofRun(0, 2, 0, 63, 2, 2);
+        x.crash();
+        due("RUN 3", Check.INDEX, () -> x.run(3, 0));
         due("what 5", Check.ELEMENT, () -> x.run(1, 5));
     }
 
@@ -440,6 +445,10 @@ public final class BoundsOfAnswersTest {
         due("three", 3, () -> x.count(21));
         x.flush();
         due("none", 0, () -> x.count(21));
+        x.put(0, 1, 1);
+        due("the first KEY", 1, () -> x.count(21));
+        x.put(63, 1, 1);
+        due("and the last", 2, () -> x.count(21));
     }
 
     /** "SPARE: bytes that could be APPENDED yet: of the OPEN SEGMENT and all FREE ones." */
@@ -661,6 +670,14 @@ public final class BoundsOfAnswersTest {
         x.put(4, 20, 4);
         due("1 is SEALED", 2, () -> x.segment(1, 0));
         would(1, 1, 50 - 44 - 26, 3);
+        // what was WRITTEN BACK ahead does not count, nor do RUN ROWS ahead
+        x.put(5, 40, 5);
+        x.pick(1);
+        x.step(1);
+        due("WRITTEN BACK", 1, () -> x.count(16));
+        due("4 lies alone", 1, () -> x.pick(x.key(4, 4)));
+        x.quit();
+        would(x.key(4, 4), 1, 50 - 24 - 6, 1);
         // just as much as before: 0
         store(50, 0, 16, 4);
         x.put(1, 40, 1);

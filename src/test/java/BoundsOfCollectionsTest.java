@@ -17,6 +17,7 @@ public final class BoundsOfCollectionsTest {
         theSegmentStaysSealed();
         quitAndNoneIsOn();
         takenBack();
+        notedAsAhead();
         whatIsNotRemembered();
         noneAreRemembered();
         whyOfCalls();
@@ -428,6 +429,40 @@ public final class BoundsOfCollectionsTest {
         x.undo();
         due("9", 3, () -> x.key(9, 0));
         due("no more", Check.STATE, () -> x.undo());
+    }
+
+    /** What is NOTED is a part of all, too: another PICK since then has gone over it. */
+    private static void notedAsAhead() {
+        for (int way = 0; way < 3; way++) {
+            threeInOne();
+            x.put(5, 40, 5);
+            x.put(6, 40, 6);
+            x.pick(0);
+            x.image();
+            if (way == 0) {
+                x.quit();
+                x.pick(2);
+                x.undo();
+                x.undo();
+            } else if (way == 1) {
+                x.quit();
+                x.pick(2);
+                x.step(1);
+                x.back();
+            } else {
+                due("a wrong text", Check.ARGUMENT, () -> Check.told(x, "quit;pick 2;step 1;x"));
+            }
+            due("on", 0, () -> x.count(14));
+            due("left", 3, () -> x.count(15));
+            due("these", 3, () -> x.step(3));
+            due("1 is WRITTEN BACK", 7, () -> x.key(1, 3));
+            due("2 is WRITTEN BACK", 8, () -> x.key(2, 3));
+            due("3 is WRITTEN BACK", 9, () -> x.key(3, 3));
+            due("5 is not", 2, () -> x.key(5, 4));
+            due("FREE", 0, () -> x.segment(0, 0));
+            due("VALUES", 6, () -> x.count(6));
+            due("SKIPPED", 0, () -> x.count(17));
+        }
     }
 
     /** All answers but of what is remembered. */

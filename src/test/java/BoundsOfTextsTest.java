@@ -1,3 +1,6 @@
+import java.util.List;
+import java.util.function.Function;
+
 /** The TAPE and the texts on it (promises 2 to 6, and what 'Terms' says of ACTS): where each thing may stand and end. */
 public final class BoundsOfTextsTest {
     private static AsideStore x;
@@ -6,7 +9,9 @@ public final class BoundsOfTextsTest {
         theTapeHas400AtMost();
         theHighestByteFirst();
         firstBytesAlone();
+        whatIsCutOffIsNotRead();
         aTextMayBeEmpty();
+        textsDoWhatCallsDo();
         fourteenActsAtMost();
         eachActHasItsNumbers();
         pickMayHaveANumber();
@@ -99,6 +104,56 @@ public final class BoundsOfTextsTest {
         Check.feed(x, "sync;flush");
         due("none", true, () -> x.end(0));
         due("no ACTS", 0, () -> x.acts());
+    }
+
+    /** What lies behind the TAPE's end from an earlier feed is no part of a text. */
+    private static void whatIsCutOffIsNotRead() {
+        x = new AsideStore();
+        Check.feed(x, "syncsync");
+        x.end(4);
+        due("a word ends there", 1, () -> x.acts());
+        Check.feed(x, "put 1 1 123");
+        x.end(9);
+        due("a number ends there", 1, () -> x.acts());
+        due("SEED", 1, () -> x.key(1, 1));
+        Check.feed(x, "put 1 1 123");
+        x.end(8);
+        due("none has begun there", Check.ARGUMENT, () -> x.acts());
+        due("fault", 8, () -> x.fault());
+        Check.feed(x, "sync;sync");
+        x.end(4);
+        due("no more comes", 1, () -> x.acts());
+        Check.feed(x, "sync    x");
+        x.end(6);
+        due("blanks end there", 1, () -> x.acts());
+        Check.feed(x, "put 1    1 1");
+        x.end(7);
+        due("blanks end there", Check.ARGUMENT, () -> x.acts());
+        due("fault", 7, () -> x.fault());
+    }
+
+    /** An ACT is the same, told by a text or by a call, but for what is remembered. */
+    private static void textsDoWhatCallsDo() {
+        String[] texts = {"store 60 8 3 2", "put 1 20 1", "put 2 12 2", "put 3 5 3", "flush", "put 1 30 4", "drop 2", "sync",
+            "put 4 40 5", "crash", "put 5 40 6", "flush", "merge", "put 6 40 7", "pick", "quit", "pick 1",
+            "step 20", "drop 6", "merge", "crash"};
+        List<Function<AsideStore, Object>> calls = List.of(y -> y.store(60, 8, 3, 2),
+            y -> y.put(1, 20, 1), y -> y.put(2, 12, 2), y -> y.put(3, 5, 3), y -> y.flush(), y -> y.put(1, 30, 4),
+            y -> y.drop(2), y -> y.sync(), y -> y.put(4, 40, 5), y -> y.crash(), y -> y.put(5, 40, 6), y -> y.flush(),
+            y -> y.merge(), y -> y.put(6, 40, 7), y -> y.pick(-1), y -> y.quit(), y -> y.pick(1),
+            y -> y.step(20), y -> y.drop(6), y -> y.merge(), y -> y.crash());
+        x = new AsideStore();
+        AsideStore other = new AsideStore();
+        for (int i = 0; i < texts.length; i++) {
+            String ahead = Picture.of(x);
+            int at = i;
+            due("the call is done", false, () -> Check.answerOf(() -> calls.get(at).apply(other)).startsWith("throws"));
+            right(texts[i], 1);
+            due(texts[i] + " comes to something", false, () -> ahead.equals(Picture.of(x)));
+            Check.told(other, "");
+            due(texts[i] + " does what the call does", Picture.of(other), () -> Picture.of(x));
+            due("why", other.why(), () -> x.why());
+        }
     }
 
     /** "[ ACT { ; ACT } ]": none at all, or ACTS with a ; between any two. */
@@ -285,6 +340,14 @@ public final class BoundsOfTextsTest {
         wrong("s ync", 0);
         wrong("sy;nc", 0);
         wrong("store1 1 1 1", 5);
+        for (String word : new String[] {"store", "put", "drop", "sync", "flush", "crash", "pick", "step", "quit", "merge"}) {
+            for (int i = 0; i < word.length(); i++) {
+                for (char sign : new char[] {'a', 'j', 'z'}) {
+                    wrong(word.substring(0, i) + sign + word.substring(i + (word.charAt(i) == sign ? 0 : 1)), 0);
+                }
+                wrong(word.substring(0, i) + word.substring(i + 1), 0);
+            }
+        }
         wrong("a".repeat(400), 0);
         wrong("sync;" + "z".repeat(395), 5);
     }
